@@ -1042,6 +1042,8 @@ public final class SessionEnds {
 
         /** Whether there are no more PLACES than there may be. */
         boolean explore(Protocol one, Protocol other, int n) {
+            // A MEETING is mostly asked for several things behind one another, and a PROTOCOL never changes.
+            if (talks[0] == one && talks[1] == other && room == n) return !isOver;
             begin(one, other, n);
             reach(0);
             for (int i = 0; i < found && i < PLACES && !isOver; i++) {
