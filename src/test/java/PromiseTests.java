@@ -30,13 +30,15 @@ public final class PromiseTests {
 
     private static String spelling(int k) {
         StringBuilder all = new StringBuilder();
-        for (int i = 0; i < x.spell(k, -1); i++) all.append((char) x.spell(k, i));
+        int many = x.spell(k, -1);
+        for (int i = 0; i < many; i++) all.append((char) x.spell(k, i));
         return all.toString();
     }
 
     private static String witness(int j, int k) {
         StringBuilder all = new StringBuilder();
-        for (int i = 0; i < x.witness(j, k, -1); i++) {
+        int many = x.witness(j, k, -1);
+        for (int i = 0; i < many; i++) {
             int one = x.witness(j, k, i);
             all.append(one < 10 ? "" + one : "" + (char) one);
         }
@@ -63,6 +65,7 @@ public final class PromiseTests {
     }
 
     private static void fault(String text, int place) {
+        x = new SessionEnds();
         due("fault of " + text, define(0, text), -100 - place);
     }
 
@@ -409,11 +412,13 @@ public final class PromiseTests {
         define(4, "*x.+{a:+{a:+{a:+{a:+{a:+{a:x,b:0}}}}}}");
         define(5, "*x.+{b:0,a:+{b:0,a:+{b:0,a:+{b:0,a:+{b:!i.0,a:x}}}}}");
         text("both rounds at once", witness(4, 5), many("a", 29) + "b1");
+        x = new SessionEnds();
         // Of 13 SENDS the last one hinders the last one of 17: both come at once behind 13 * 17 - 1.
         define(6, "*x." + many("!(+{a:0,b:0}).", 12) + "!(+{a:0}).x");
         define(7, "*x." + many("!(+{a:0}).", 16) + "!(+{a:0,b:0}).x");
-        text("rounds of SENDS", witness(6, 7), many(".", 220) + "2");
         due("rounds of SENDS: how many", x.witness(6, 7, -1), 221);
+        due("rounds of SENDS: the last but one", x.witness(6, 7, 219), '.');
+        due("rounds of SENDS: the last", x.witness(6, 7, 220), 2);
     }
 
     private static void promise10Bound() {
@@ -433,14 +438,15 @@ public final class PromiseTests {
         due("bound of END", x.bound(4, 0), 0);
         define(5, many("?i.", 59) + "0");
         due("bound 59", x.bound(5, 1), 59);
+        x = new SessionEnds();
         define(5, "*x." + many("?i.", 57) + "!i.x");
         due("bound 57", x.bound(5, 1), 57);
         define(5, "*x." + many("?i.", 58) + "x");
         due("bound without an end", x.bound(5, 1), NOT);
         define(5, "*x.?i.?i.!i.?i.x");
         due("bound: over the beginning of a LOOP", x.bound(5, 1), 3);
-        due("bound side 2", x.bound(0, 2), BAD);
-        due("bound side -1", x.bound(0, -1), BAD);
+        due("bound side 2", x.bound(5, 2), BAD);
+        due("bound side -1", x.bound(5, -1), BAD);
         due("bound of none", x.bound(9, 0), BAD);
     }
 
