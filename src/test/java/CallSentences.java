@@ -521,6 +521,16 @@ final class CallSentences extends Sheet {
         x.give(0, 0, 2);
         due("END 2", x.take(1, 1), 2);
         due("give what another HOLDS now", x.give(0, 0, 3), BREACH);
+        fresh();
+        talks("0", "*x.!(0).x");
+        for (int s = 0; s < 7; s++) x.open(0, 0, 0);
+        x.open(1, 0, 1);
+        for (int given = 0; given < 14; given++) {
+            due("give " + given, x.give(0, 14, given), 1);
+            due("nobody HOLDS " + given, x.look(given, 0), 9);
+            due("take " + given, x.take(1, 15), given);
+            due("who HOLDS " + given, x.look(given, 0), 1);
+        }
     }
 
     private static void endCalls() {
@@ -792,5 +802,29 @@ final class CallSentences extends Sheet {
         due("nobody", x.count(6), 1);
         due("count 7", x.count(7), BAD);
         due("count -1", x.count(-1), BAD);
+        fresh();
+        talks("0");
+        for (int s = 0; s < 8; s++) x.open(0, 0, 0);
+        for (int end = 0; end < 16; end++) {
+            x.end(0, end);
+            due("ENDED with " + end, x.count(3), (end + 1) / 2);
+        }
+        fresh();
+        talks("*x.?i.x");
+        for (int s = 0; s < 8; s++) {
+            x.open(0, 0, 0);
+            x.say(0, 2 * s + 1, s);
+            due("LETTERS with " + s, x.count(4), s + 1);
+        }
+        fresh();
+        talks("0", "*x.!(0).x");
+        for (int s = 0; s < 7; s++) x.open(0, 0, 0);
+        x.open(1, 0, 1);
+        x.size(4);
+        int[] gifts = {0, 13, 1, 12};
+        for (int i = 0; i < 4; i++) {
+            due("give " + gifts[i], x.give(0, 14, gifts[i]), 1);
+            due("nobody HOLDS, with " + gifts[i], x.count(6), i + 1);
+        }
     }
 }

@@ -83,6 +83,9 @@ final class ProtocolSentences extends Sheet {
         fault("&{a:0)", 5);
         fault("+{a:0,}", 6);
         fault("+{,a:0}", 2);
+        fault("+{0}", 2);
+        fault("+{!i.0}", 2);
+        fault("+{+{a:0}}", 2);
         fault("+{a:}", 4);
         fault("+{a:0}0", 6);
         fault("+{a:0}.0", 6);
@@ -132,9 +135,19 @@ final class ProtocolSentences extends Sheet {
         fault("*X.0", 1);
         fault("*1.0", 1);
         fault("*.0", 1);
+        fault("*0", 1);
+        fault("*!i.0", 1);
+        fault("**x.0", 1);
+        fault("*+{a:0}", 1);
         fault("*x0", 2);
         fault("*x,0", 2);
         fault("*xy.0", 2);
+        // The letters of T and of LABELS may be those of LOOPS, too.
+        nodes("*i.!i.i", 3);
+        nodes("*b.?b.b", 3);
+        nodes("*a.+{a:a,b:*b.!b.b}", 6);
+        fault("*i.!i.b", 6);
+        fault("*i.!ii", 5);
 
         says("x (AGAIN: the innermost LOOP of that letter around it begins anew).");
         alike("*x.!i.*x.?b.x", "!i.*y.?b.y", 1);
@@ -436,6 +449,13 @@ final class ProtocolSentences extends Sheet {
         spelt(0, "*x.*y.+{a:y,b:*x.!i.x,c:x}");
         spelt(1, "0");
         spelt(2, "*z.0");
+        for (String text : new String[] {many("!(", 8) + "?b.0" + many(").0", 8), many("+{m:", 8) + "!i.0" + many("}", 8),
+            many("&{z:!(", 4) + "!b.0" + many(").0}", 4), many("!(+{y:", 4) + "?i.0" + many("}).0", 4),
+            many("?i.", 59) + "0", "*x." + many("!b.", 58) + "x", many("*x.", 59) + "0"}) {
+            fresh();
+            talks(text);
+            spelt(0, text);
+        }
     }
 
     private static void duals() {
@@ -447,6 +467,12 @@ final class ProtocolSentences extends Sheet {
         spelt(7, "0");
         x.dual(6, 8);
         spelt(8, "!(?i.!b.+{a:&{a:0}}).?(?(!i.0).!i.0).0");
+        fresh();
+        talks(many("?(", 8) + "!i.0" + many(").0", 8), many("+{m:", 8) + "!i.0" + many("}", 8));
+        x.dual(0, 0);
+        x.dual(1, 1);
+        spelt(0, "!(" + many("?(", 7) + "!i.0" + many(").0", 8));
+        spelt(1, many("&{m:", 8) + "?i.0" + many("}", 8));
     }
 
     private static void fits() {
